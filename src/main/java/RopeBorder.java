@@ -613,10 +613,10 @@ public final class RopeBorder {
 
     private boolean canBecome(int what, int v) {
         switch (what) {
-            case Crosser.SKILL: return isWithin(v, 0, 9);
-            case Crosser.LOAD: return isWithin(v, 0, MOST_LOAD);
-            case Crosser.PLACE: return isPlace(v);
-            case Crosser.STATE_OF: return v == SOUTH || v == NORTH || v == HELD;
+            case Crosser.WHAT_SKILL: return isWithin(v, 0, 9);
+            case Crosser.WHAT_LOAD: return isWithin(v, 0, MOST_LOAD);
+            case Crosser.WHAT_PLACE: return isPlace(v);
+            case Crosser.WHAT_STATE: return v == SOUTH || v == NORTH || v == HELD;
             default: return false;
         }
     }
@@ -928,10 +928,10 @@ public final class RopeBorder {
     }
 
     private static final class Crosser {
-        static final int SKILL = 0;
-        static final int LOAD = 1;
-        static final int PLACE = 2;
-        static final int STATE_OF = 3;
+        static final int WHAT_SKILL = 0;
+        static final int WHAT_LOAD = 1;
+        static final int WHAT_PLACE = 2;
+        static final int WHAT_STATE = 3;
 
         int kind;
         int m;
@@ -970,15 +970,15 @@ public final class RopeBorder {
         int exchange(int what, int v) {
             int before;
             switch (what) {
-                case SKILL:
+                case WHAT_SKILL:
                     before = skill;
                     skill = v;
                     return before;
-                case LOAD:
+                case WHAT_LOAD:
                     before = load;
                     load = v;
                     return before;
-                case PLACE:
+                case WHAT_PLACE:
                     before = place;
                     place = v;
                     return before;

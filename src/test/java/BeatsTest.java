@@ -163,13 +163,17 @@ public final class BeatsTest {
         due.is("17: BEAT", x.count(3), 240);
     }
 
-    private static void lastBeat() {
+    private static RopeBorder atBeat99800() {
         RopeBorder x = new RopeBorder();
-        x.turner(3);
         x.crosser(0, 0, 0);
         for (int i = 0; i < 499; i++) {
             x.beats(200);
         }
+        return x;
+    }
+
+    private static void lastBeat() {
+        RopeBorder x = atBeat99800();
         due.is("17: beats(200) beyond the last", x.beats(200), Due.STATE);
         due.is("17: beats(201) there", x.beats(201), Due.BEYOND);
         due.is("17: beats(199) to the last", x.beats(199), 0);
@@ -179,6 +183,13 @@ public final class BeatsTest {
         due.is("18: z stays", x.count(13), 1);
         x.go(1);
         due.is("21: over() thinks beyond the last", x.over(0), 1);
+        RopeBorder y = atBeat99800();
+        y.beats(160);
+        due.is("18: loose(40) beyond the last", y.loose(40), Due.STATE);
+        due.is("18: loose(41) there", y.loose(41), Due.BEYOND);
+        due.is("18: who goes stays", y.count(7), 0);
+        due.is("18: loose(39) to the last", y.loose(39), 1);
+        due.is("18: BEAT is the last", y.count(3), 99999);
     }
 
     private static void draws() {

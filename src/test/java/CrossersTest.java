@@ -87,6 +87,10 @@ public final class CrossersTest {
         due.is("8: a rest of 0 by 3", x.ofCrosser(0, 7), 3);
         x.become(0, 28);
         due.is("8: a rest of 2 by 3", x.ofCrosser(0, 7), 5);
+        x.become(0, 58);
+        due.is("8: a tourist's rest of 2 by 3", x.ofCrosser(0, 7), 10);
+        x.become(0, 59);
+        due.is("8: a tourist's rest of 0 by 3", x.ofCrosser(0, 7), 6);
     }
 
     private static void wears() {

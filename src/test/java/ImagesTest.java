@@ -6,6 +6,7 @@ public final class ImagesTest {
         images();
         imageKeepsAll();
         imageLeavesOut();
+        whoComesAnewIsNew();
         tell();
         check();
         count();
@@ -153,6 +154,26 @@ public final class ImagesTest {
         due.is("38: no new sheet", x.put(2, 1, 0), 1);
         due.is("38: no trace", x.trace(0), 12);
         due.is("38: no ERRORS that are told", x.told(1), beyond + 1);
+    }
+
+    private static void whoComesAnewIsNew() {
+        RopeBorder x = new RopeBorder();
+        x.image();
+        x.turner(50);
+        x.crosser(29, 5, 3);
+        x.change(0, 1, 99);
+        x.go(1);
+        x.beats(3);
+        due.is("39: he was in", x.ofCrosser(0, 5), 1);
+        x.restore();
+        x.turner(60);
+        x.crosser(14, 6, 2);
+        int[] want = {1, 4, 6, 0, 2, 0, 0, 1, 0, 0};
+        for (int what = 0; what < 10; what++) {
+            due.is("7: ofCrosser(0, " + what + ") anew", x.ofCrosser(0, what), want[what]);
+        }
+        due.is("4: STRENGTH anew", x.ofTurner(0, 0), 60);
+        due.is("4: TIRED anew", x.ofTurner(0, 1), 0);
     }
 
     private static void tell() {

@@ -143,6 +143,11 @@ public final class ThoughtTest {
         due.is("23: 1, and 0 not", x.rhymes(3, 2, 1, 0), 0);
         due.is("23: 0 and 2", x.rhymes(4, 5, 0, 0), 1);
         due.is("23: 0 and 2, the least", x.rhymes(4, 5, 0, 1), 6);
+        x.go(0);
+        due.is("23: told ones go, whoever goes now", x.rhymes(3, 1, 0, 0), 2);
+        x.go(1);
+        due.is("23: others don't go, whoever goes now", x.rhymes(3, 2, 0, 0), 2);
+        x.go(7);
         x.change(1, 3, 2);
         due.is("23: one who is north is", x.rhymes(0, 2, 0, 0), 16);
         due.is("23: and isn't not", x.rhymes(0, 0, 2, 1), Due.NONE);
@@ -278,6 +283,9 @@ public final class ThoughtTest {
             due.is("29: odds(0, " + w[0] + ", 0)", x.odds(0, w[0], 0), w[1]);
             due.is("29: odds(0, " + w[0] + ", 1)", x.odds(0, w[0], 1), w[2]);
         }
+        x.go(1);
+        due.is("29: one who goes already", x.odds(0, 4, 1), 2);
+        x.go(0);
         due.is("29: BEAT stays", x.count(3), 6);
         due.is("29: who goes stays", x.count(7), 0);
         due.is("29: odds(1, 0, 0)", x.odds(1, 0, 0), Due.BEYOND);
