@@ -7,7 +7,8 @@ import java.util.TreeSet;
 
 /**
  * The document once more, in other ways and slowly, for OracleTest: every thought is a copy of all,
- * texts stay strings and are split at their weakest sign, voices are Java's own classes.
+ * texts stay strings and are split at their weakest sign, faults are found by a stack of what is
+ * open. (Voices go much as in RopeBorder; VoicesTest has them as Java's own classes.)
  */
 public final class SlowBorder {
     private static final class Refusal extends RuntimeException {
@@ -686,7 +687,6 @@ public final class SlowBorder {
         return was;
     }
 
-    /** Bodies by a text of their own: a sign that joins, and calls as act:own or super, and number. */
     private int say(int self, int from, int act, int x, List<Integer> begun) {
         Person p = now.people.get(self);
         int[][] bodies = {{10, 11, 12, 13}, {20, 0, 0, 0}, {0, 30, 0, 0}, {0, 0, 40, 0}, {0, 0, 0, 50}, {0, 60, 0, 0}, {0, 0, 70, 71}};
