@@ -23,6 +23,7 @@ public final class LanguageTest {
         classesInside();
         words();
         sizes();
+        headings();
         due.end();
     }
 
@@ -157,5 +158,24 @@ public final class LanguageTest {
                 due.holds("11: a short method at line " + (i + 1), end - i < 60);
             }
         }
+    }
+
+    /** "Ahead of the calls .. the interface says: ---- texts": the source says so, too, with the calls in order. */
+    private static void headings() throws IOException {
+        String source = Files.readString(SOURCE, StandardCharsets.UTF_8);
+        Matcher said = Pattern.compile("Ahead of the calls (.*) the interface says: (---- .*)\\.")
+            .matcher(Files.readString(DOCUMENT, StandardCharsets.UTF_8));
+        int found = 0;
+        while (said.find()) {
+            found++;
+            int at = source.indexOf("// " + said.group(2) + "\n");
+            due.holds("the source says " + said.group(2), at >= 0);
+            for (String call : said.group(1).replace("`", "").split(", ")) {
+                int next = source.indexOf(" public int ", Math.max(at, 0));
+                due.holds(call + " stands in its order", source.startsWith(" public int " + call + "(", next));
+                at = next + 1;
+            }
+        }
+        due.is("headings of the document", found, 5);
     }
 }
